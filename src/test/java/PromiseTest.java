@@ -200,6 +200,7 @@ public final class PromiseTest {
         due("5 outward", x.count(4), 0);
         x.ask(1, 1);
         x.weigh(3, 4);
+        x.weigh(0, 4);
         x.see(1, 1);
         x.skew(2, 7);
         x.gear(4, 4);
@@ -219,6 +220,7 @@ public final class PromiseTest {
         due("5 a ring that is gone", x.ring(4, 0), UNKNOWN);
         due("29 another plate since", x.restore(), STATE);
         due("19 weight is gone", x.weigh(3, 1), 0);
+        due("19 weight is gone", x.weigh(0, 1), 0);
     }
 
     private static void ring() {
@@ -438,6 +440,10 @@ public final class PromiseTest {
         due("11 nothing changed", y.count(5), 1);
         due("11 nothing changed", y.count(2), 100000);
         due("12 unknown ahead of full", y.read(1), UNKNOWN);
+        RingArm v = atTick(99996);
+        v.ask(0, 1);
+        v.skew(0, 12);
+        due("12 at the last tick", v.read(0), 100000);
         RingArm z = atTick(99996);
         z.ask(0, 1);
         z.skew(0, 13);
@@ -634,6 +640,11 @@ public final class PromiseTest {
         due("19 weight", x.weigh(0, -1), OUTSIDE);
         due("20 no things", x.lay(0), 0);
         due("20 no things", x.lay(10), NONE);
+        due("19 it had", x.weigh(0, 1), 0);
+        due("19 things", x.count(8), 1);
+        due("20 one thing", x.lay(10), 0);
+        due("20 one thing", x.lay(11), NONE);
+        due("19 it had", x.weigh(0, 0), 1);
         due("19 it had", x.weigh(2, 9), 0);
         due("19 things", x.count(8), 3);
         due("20 one alone", x.lay(0), 0);
@@ -731,6 +742,8 @@ public final class PromiseTest {
         due("23 ticks", x.see(1, -1), OUTSIDE);
         due("23 ticks", x.see(1, 100), OUTSIDE);
         due("25 nothing seen", x.steps(), 511);
+        due("23 the most ticks", x.see(9, 99), 1);
+        due("24 forget", x.forget(), 1);
         due("23 seen", x.see(1, 8), 1);
         // START is 3: 5 in truth, or one more or fewer
         due("25 steps", x.steps(), 8 + 16 + 32);
@@ -799,6 +812,37 @@ public final class PromiseTest {
         // ring 0 place 1: begins 12, done 24; ring 2 place 1: there at 26, begins 36, done 48
         due("27 the tick", x.days(2, 1406932606, 0), 48);
         due("27 waited", x.days(2, 1406932606, 1), 23 + 47);
+        for (int kind = 0; kind < 5; kind++) {
+            for (int times = 1; times <= 12; times++) {
+                daysByCalls(kind, times, 100 * kind + times);
+            }
+        }
+    }
+
+    /** The days once more, by asking and serving. */
+    private static void daysByCalls(int kind, int times, int seed) {
+        RingArm y = Check.plate("ca8b6c4d3e2f;32;f");
+        y.choose(kind);
+        int tick = y.days(times, seed, 0);
+        int all = y.days(times, seed, 1);
+        int waited = 0;
+        for (int i = 0; i < times; i++) {
+            int ring = seedAfter(seed, 2 * i + 1) / 65536 % 6;
+            y.ask(ring, seedAfter(seed, 2 * i + 2) / 65536 % y.ring(ring, 0));
+            if (y.count(5) >= 3) {
+                waited += waitedByServing(y);
+            }
+        }
+        while (y.count(5) > 0) {
+            waited += waitedByServing(y);
+        }
+        due("27 the tick by kind " + kind + ", " + times + " times", tick, y.count(2));
+        due("27 waited by kind " + kind + ", " + times + " times", all, waited);
+    }
+
+    private static int waitedByServing(RingArm y) {
+        int since = y.asked(y.next(), 2);
+        return y.serve() - since;
     }
 
     private static int seedAfter(long seed, int draws) {
