@@ -28,6 +28,7 @@ final class TermEdges {
         nextBySoonest();
         nextBySweep();
         sweepAtTheEnds();
+        noOtherKindTurns();
         nextByRound();
         likeOnes();
         oneLessByNumber();
@@ -393,6 +394,30 @@ final class TermEdges {
         askAll(x, 0);
         x.serve();
         e.due("nor does a ROUND that goes around", x.count(4), 0);
+    }
+
+    private void noOtherKindTurns() {
+        for (int kind : new int[] {0, 1, 3, 4}) {
+            RingArm x = at(5, 's');
+            x.choose(kind);
+            serveEach("inward, kind " + kind, x, 1);
+            x.choose(2);
+            askAll(x, 0);
+            x.serve();
+            e.due("a SWEEP turned it", x.count(4), 0);
+            x.choose(kind);
+            serveEach("outward, kind " + kind, x, 0);
+        }
+    }
+
+    /** The arm goes inward, stays, and goes outward; how it goes must stay. */
+    private void serveEach(String what, RingArm x, int goes) {
+        for (int ring : new int[] {6, 6, 3}) {
+            askAll(x, ring);
+            x.serve();
+            e.due(what + ": the arm is at", x.count(3), ring);
+            e.due(what + ": to ring " + ring, x.count(4), goes);
+        }
     }
 
     private void nextByRound() {
